@@ -48,6 +48,10 @@ public final class ReflectModels {
         private final ClassModel face;
         private final boolean shut;
         private final boolean fails;
+        /** It and those ABOVE it, a bit each: a class never gets others ABOVE it, so this is told once. */
+        private final int line;
+        /** What its OBJECTS are OF: the line, and the lines of the FACES that those in it ACT as. */
+        private final int all;
         private int state = NOT_STARTED;
         private int constantCount = 0;
         private int firstConstant = 0;
@@ -60,26 +64,14 @@ public final class ReflectModels {
             this.face = face;
             this.shut = shut;
             this.fails = fails;
+            int own = 1 << number;
+            this.line = own | (above == null ? 0 : above.line);
+            this.all = own | (above == null ? 0 : above.all) | (face == null ? 0 : face.all);
         }
 
         /** Whether it is the other one, or has that one ABOVE it. */
         private boolean standsUnder(ClassModel other) {
-            for (ClassModel model = this; model != null; model = model.above) {
-                if (model == other) {
-                    return true;
-                }
-            }
-            return false;
-        }
-
-        /** Whether OBJECTS of this class are OF the other one. */
-        private boolean countsAs(ClassModel other) {
-            for (ClassModel model = this; model != null; model = model.above) {
-                if (model == other || (model.face != null && model.face.standsUnder(other))) {
-                    return true;
-                }
-            }
-            return false;
+            return (line >>> other.number & 1) != 0;
         }
     }
 
@@ -184,20 +176,21 @@ public final class ReflectModels {
     /** An OBJECT; a PROXY has a FACE and a HANDLER of its own. */
     private static final class Thing {
         private final ClassModel model;
-        private final ClassModel proxyFace;
         private final int handler;
         private final long[] slots;
+        /** The classes that it is OF, a bit each. */
+        private final int all;
         private int asked = 0;
 
         private Thing(ClassModel model, ClassModel proxyFace, int handler, long[] slots) {
             this.model = model;
-            this.proxyFace = proxyFace;
             this.handler = handler;
             this.slots = slots;
+            this.all = model.all | (proxyFace == null ? 0 : proxyFace.all);
         }
 
         private boolean isOf(ClassModel other) {
-            return model.countsAs(other) || (proxyFace != null && proxyFace.standsUnder(other));
+            return (all >>> other.number & 1) != 0;
         }
     }
 

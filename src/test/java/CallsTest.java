@@ -391,6 +391,8 @@ public final class CallsTest {
     x.method(1, 16, 0, 0, 0, 1, 0, 0, 0);
     x.method(2, 16, 0, 0, 0, 0, 0, 6, 0);
     int self = x.findMethod(1, 16, 0, 0, 0, false);
+    int throwing = told(x, 1, 17, 0, 0, 0, VOID, 0, 0, 0);
+    x.method(2, 17, 0, 0, 0, VOID, 0, 5, 20);
     x.make(2);
     for (int i = 0; i < 4; i++) {
       for (int j = 0; j < 4; j++) {
@@ -403,6 +405,7 @@ public final class CallsTest {
       }
     }
     gives("an OBJECT that FITS both", x, self, 0, 3, 0);
+    d.wrapped("the one that is done throws", x, x.call(throwing, 0), 120);
   }
 
   private static void proxies() {

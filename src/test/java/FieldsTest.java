@@ -9,6 +9,7 @@ public final class FieldsTest {
     values();
     refusedValues();
     getsFirst();
+    getsFirstOfTheRoot();
     getsAs();
     refusedActs();
     orderOfGetFailures();
@@ -82,6 +83,20 @@ public final class FieldsTest {
     d.result("LONG", x, 2, 0);
     d.due("class", x.get(2, 0, 0), 1);
     d.result("class", x, 0, 0);
+  }
+
+  private static void getsFirstOfTheRoot() {
+    ReflectModels x = new ReflectModels();
+    x.type(0, 0, NONE, false, false);
+    x.field(1, 0, 0, false, false, false);
+    x.field(1, 1, 0, true, false, false);
+    x.make(1);
+    x.findField(1, 0, true);
+    x.findField(1, 1, true);
+    d.due("of the ROOT", x.get(0, 0, 0), 1);
+    d.result("of the ROOT", x, 0, 0);
+    d.due("of the ROOT, STATIC", x.get(1, NONE, 0), 1);
+    d.result("of the ROOT, STATIC", x, 0, 0);
   }
 
   private static void getsAs() {

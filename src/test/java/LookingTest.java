@@ -207,6 +207,12 @@ public final class LookingTest {
     d.due("refused again", x.leave(0), NO_LEAVE);
     d.due("it keeps its LEAVE", x.handle(0, 1), 1);
     d.due("again", x.leave(1), 1);
+    ReflectModels y = new ReflectModels();
+    y.type(0, 0, NONE, false, false);
+    y.field(0, 0, INT, true, false, true);
+    y.findField(0, 0, false);
+    y.caller(1);
+    d.due("the ROOT is not SHUT", y.leave(0), 1);
   }
 
   private static void mayBeUsed() {

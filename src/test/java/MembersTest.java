@@ -200,6 +200,7 @@ public final class MembersTest {
     d.due("FULL of METHODS", x.method(4, 0, 0, 0, 0, INT, 0, 0, 0), FULL);
     d.due("STATE ahead of it", x.field(4, 0, INT, false, false, false), STATE);
     d.due("STATE ahead of it", x.method(5, 0, 0, 0, 0, INT, 0, 0, 0), STATE);
+    d.due("BODY 3 of MEMBER 40", x.method(4, 0, 1, 4, 0, INT, 0, 3, 40), STATE);
     d.due("told(1)", x.told(1), 40);
     d.due("about(4, 4)", x.about(4, 4), 20);
   }
