@@ -1,18 +1,24 @@
 /** Counts and prints the answers that are not as due; the tests of the project share it. */
 final class Due {
   private int wrong = 0;
+  private String sentence = "";
+
+  /** The words of the document that the answers due from here on follow from: printed with a wrong one. */
+  void sentence(String words) {
+    sentence = "\"" + words + "\": ";
+  }
 
   void due(String call, long got, long want) {
     if (got != want) {
       wrong++;
-      System.out.println(call + " answered " + got + ", due is " + want);
+      System.out.println(sentence + call + " answered " + got + ", due is " + want);
     }
   }
 
   void holds(String what, boolean holds) {
     if (!holds) {
       wrong++;
-      System.out.println("does not hold: " + what);
+      System.out.println(sentence + "does not hold: " + what);
     }
   }
 
@@ -28,6 +34,12 @@ final class Due {
     due("cause() behind " + call, x.cause(), cause);
     due("told(5) behind " + call, x.told(5), 6);
     result(call, x, 0, 0);
+  }
+
+  /** A call that comes to a RESULT. */
+  void gives(String call, ReflectModels x, int answer, int kind, long number) {
+    due(call, answer, 1);
+    result(call, x, kind, number);
   }
 
   void end() {

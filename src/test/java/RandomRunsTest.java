@@ -1,155 +1,108 @@
-import java.util.Arrays;
+import java.lang.reflect.InvocationTargetException;
+import java.lang.reflect.Method;
+import java.util.ArrayList;
+import java.util.HashMap;
+import java.util.List;
+import java.util.Map;
 import java.util.Random;
+import java.util.TreeMap;
 
 /**
- * Runs of 512 calls with arguments good and bad: none throws, the same calls answer the same,
- * and a refusal changes nothing that can be asked for.
+ * Random runs of 512 calls: every answer is the one that the rules on paper give, none throws, and
+ * a run answers the same without the calls in it that were refused.
  */
 public final class RandomRunsTest {
-  private static final int RUNS = 400, CALLS = 512;
-  private static final int[] ODD = {
-    Integer.MIN_VALUE, Integer.MIN_VALUE + 1, -4, -3, -2, -1, 0, 1, 2, 3, 15, 16, 20, 40, 60, 120, 1 << 16,
-    Integer.MAX_VALUE - 1, Integer.MAX_VALUE};
+  private static final int RUNS = 1200, CALLS = 512;
+  /** What the runs must have met, so that they are worth something: a call, and its answers. */
+  private static final String[] MET = {
+    "type -2 -3 -4 -5", "constants 1 -2 -3 -4", "field -2 -3 -4 -5", "method -2 -3 -4 -5", "caller -2",
+    "findField -2 -3 -5 -11", "findMethod -2 -3 -5 -11", "leave 1 -2 -12", "value 1 2 3 -2 -3",
+    "get 1 -2 -3 -4 -12 -13 -14 -18 -19", "set 1 -2 -4 -12 -13 -14 -17 -18 -19",
+    "call 1 -2 -4 -12 -13 -14 -16 -18 -19", "make -2 -5 -13 -15 -18 -19", "proxy -2 -3 -4 -5",
+    "constant -1 -2 -4 -18 -19", "start 1 -2 -18 -19", "resultKind 0 1 2 3", "cause 0 1 2 3 4 5 6 100 107 199",
+    "about -1 -2 -3", "is 0 1 -2", "handle 0 1 -2 -3", "told 0 1 2 3 4 5 6 7 8 9 -3"};
+  private static final Map<String, Method> onPaper = methodsOf(OnPaper.class);
+  private static final Map<String, Method> inClass = methodsOf(ReflectModels.class);
+  private static final Map<String, Map<Long, Integer>> met = new TreeMap<>();
   private static final Due d = new Due();
-  private static final long[] seen = new long[40];
 
   public static void main(String[] args) {
     for (int run = 0; run < RUNS; run++) {
-      long[] answers = new long[CALLS];
-      play(run, answers, true);
-      long[] again = new long[CALLS];
-      play(run, again, false);
-      d.holds("run " + run + " answers the same again", Arrays.equals(answers, again));
+      List<Player.Call> calls = new ArrayList<>();
+      List<Long> answers = new ArrayList<>();
+      play(run, calls, answers);
+      playWithoutRefused(run, calls, answers);
     }
-    for (int answer = -19; answer <= -11; answer++) {
-      d.holds("FAILURE " + answer + " was met", seen[-answer] > 0);
-    }
-    for (int answer = -5; answer <= -1; answer++) {
-      d.holds("refusal " + answer + " was met", seen[-answer] > 0);
+    for (String row : MET) {
+      String[] words = row.split(" ");
+      for (int i = 1; i < words.length; i++) {
+        boolean was = met.getOrDefault(words[0], Map.of()).containsKey(Long.parseLong(words[i]));
+        d.holds("the runs met " + words[0] + "() with the answer " + words[i], was);
+      }
     }
     d.end();
   }
 
-  private static void play(int run, long[] answers, boolean looking) {
-    Random r = new Random(run);
+  private static Map<String, Method> methodsOf(Class<?> c) {
+    Map<String, Method> all = new HashMap<>();
+    for (Method m : c.getDeclaredMethods()) {
+      if (inFace(m.getName())) {
+        all.put(m.getName(), m);
+      }
+    }
+    return all;
+  }
+
+  private static boolean inFace(String name) {
+    for (Method m : ReflectModels.class.getMethods()) {
+      if (m.getDeclaringClass() == ReflectModels.class && m.getName().equals(name)) {
+        return true;
+      }
+    }
+    return false;
+  }
+
+  private static long answer(Map<String, Method> methods, Object of, Player.Call call) {
+    try {
+      return ((Number) methods.get(call.name()).invoke(of, call.args())).longValue();
+    } catch (InvocationTargetException e) {
+      throw new IllegalStateException(call + " threw " + e.getCause(), e.getCause());
+    } catch (IllegalAccessException e) {
+      throw new IllegalStateException(e);
+    }
+  }
+
+  private static void play(int run, List<Player.Call> calls, List<Long> answers) {
     ReflectModels x = new ReflectModels();
-    for (int i = 0; i < CALLS; i++) {
-      // Telling comes first, acting behind it: OBJECTS bar new MEMBERS.
-      int which = i < 60 ? r.nextInt(4) : r.nextInt(23);
-      long[] before = looking ? picture(x) : null;
-      answers[i] = act(x, r, which);
-      if (looking && which < 16) {
-        note(run, i, which, answers[i], before, x);
+    OnPaper paper = new OnPaper();
+    Player player = new Player(new Random(run), paper);
+    boolean same = true;
+    for (int i = 0; i < CALLS && same; i++) {
+      Player.Call call = player.next();
+      long due = answer(onPaper, paper, call);
+      long got = answer(inClass, x, call);
+      d.due("run " + run + ", call " + i + ": " + call, got, due);
+      same = got == due;
+      calls.add(call);
+      answers.add(got);
+      met.computeIfAbsent(call.name(), k -> new TreeMap<>()).merge(got, 1, Integer::sum);
+    }
+  }
+
+  private static boolean isRefused(Player.Call call, long answer) {
+    return answer <= ReflectModels.UNKNOWN && answer >= ReflectModels.FULL && !call.name().equals("result");
+  }
+
+  private static void playWithoutRefused(int run, List<Player.Call> calls, List<Long> answers) {
+    ReflectModels x = new ReflectModels();
+    boolean same = true;
+    for (int i = 0; i < calls.size() && same; i++) {
+      Player.Call call = calls.get(i);
+      if (!isRefused(call, answers.get(i))) {
+        long got = answer(inClass, x, call);
+        d.due("run " + run + " without the refused calls, call " + i + ": " + call, got, answers.get(i));
+        same = got == answers.get(i);
       }
-    }
-  }
-
-  private static void note(int run, int i, int which, long answer, long[] before, ReflectModels x) {
-    if (answer < 0 && answer > -20) {
-      seen[(int) -answer]++;
-    }
-    if (answer <= -2 && answer >= -5) {
-      d.holds("run " + run + ", call " + i + " (" + which + "): the refusal " + answer + " changes nothing",
-          Arrays.equals(before, picture(x)));
-    }
-    if (answer <= -11) {
-      d.due("told(5) in run " + run + ", call " + i, x.told(5), -10 - answer);
-    }
-  }
-
-  /** All that can be asked for without a change. */
-  private static long[] picture(ReflectModels x) {
-    long[] p = new long[9 + 16 * 5 + 60 * 3 + 1];
-    int at = 0;
-    for (int what = 0; what <= 5; what++) {
-      p[at++] = x.told(what);
-    }
-    p[at++] = x.resultKind();
-    p[at++] = x.result();
-    p[at++] = x.cause();
-    for (int c = 0; c < 16; c++) {
-      for (int what = 0; what < 5; what++) {
-        p[at++] = x.about(c, what);
-      }
-    }
-    for (int h = 0; h < 60; h++) {
-      for (int what = 0; what < 3; what++) {
-        p[at++] = x.handle(h, what);
-      }
-    }
-    int caller = x.caller(0);
-    x.caller(caller);
-    p[at] = caller;
-    return p;
-  }
-
-  private static int near(Random r, int count) {
-    return r.nextInt(30) == 0 ? ODD[r.nextInt(ODD.length)] : r.nextInt(Math.max(1, count));
-  }
-
-  private static int type(Random r, int classes) {
-    return r.nextInt(3) == 0 ? near(r, classes) : near(r, 2) - 2;
-  }
-
-  private static long number(Random r) {
-    int pick = r.nextInt(8);
-    return pick == 0 ? r.nextLong() : pick == 1 ? ODD[r.nextInt(ODD.length)] : r.nextInt(5) - 1;
-  }
-
-  private static long act(ReflectModels x, Random r, int which) {
-    int classes = x.told(0);
-    int receiver = near(r, x.told(3) + 1) - (r.nextInt(4) == 0 ? 1 : 0);
-    int handle = near(r, x.told(2));
-    switch (which) {
-      case 0:
-        return x.type(r.nextInt(3) == 0 ? 0 : near(r, classes), near(r, 5), r.nextInt(3) > 0 ? -1 : near(r, classes),
-            r.nextInt(4) == 0, r.nextInt(6) == 0);
-      case 1:
-        return x.field(near(r, classes), near(r, 4), type(r, classes), r.nextBoolean(), r.nextBoolean(), r.nextInt(3) == 0);
-      case 2:
-        return x.method(near(r, classes), near(r, 4), near(r, 3), type(r, classes), type(r, classes),
-            type(r, classes) - r.nextInt(2), near(r, 6), near(r, 8), near(r, 9));
-      case 3:
-        return x.constants(near(r, classes), near(r, 5));
-      case 4:
-        return x.caller(near(r, classes));
-      case 5:
-        return x.findField(near(r, classes), near(r, 4), r.nextBoolean());
-      case 6:
-        return x.findMethod(near(r, classes), near(r, 4), near(r, 3), type(r, classes), type(r, classes), r.nextBoolean());
-      case 7:
-        return x.leave(handle);
-      case 8:
-        int kind = near(r, 4);
-        return x.value(near(r, 3), kind, kind == 3 ? near(r, x.told(3)) : number(r));
-      case 9:
-        return x.get(handle, receiver, -near(r, 3));
-      case 10:
-        return x.set(handle, receiver);
-      case 11:
-        return x.call(handle, receiver);
-      case 12:
-        return x.make(near(r, classes));
-      case 13:
-        return x.proxy(near(r, classes), near(r, 4));
-      case 14:
-        return x.constant(near(r, classes), near(r, 5));
-      case 15:
-        return x.start(near(r, classes));
-      case 16:
-        return x.resultKind();
-      case 17:
-        return x.result();
-      case 18:
-        return x.cause();
-      case 19:
-        return x.about(near(r, classes), near(r, 5));
-      case 20:
-        return x.is(receiver, near(r, classes));
-      case 21:
-        return x.handle(handle, near(r, 3));
-      default:
-        return x.told(near(r, 6));
     }
   }
 }
