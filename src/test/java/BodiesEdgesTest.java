@@ -34,6 +34,7 @@ public final class BodiesEdgesTest {
     fitsTheHandlesMethod();
     fitsItsOwnMethodFirst();
     proxyFitsTheHandlesAlone();
+    widenedForItsType();
     voidGivesNothing();
     causes();
     d.end();
@@ -497,6 +498,21 @@ public final class BodiesEdgesTest {
     d.wrapped("NOTHING as an INT", x, x.call(asInt, 1), 3);
     d.gives("NOTHING as a class", x, x.call(asClass, 1), 0, 0);
     d.gives("NOTHING as VOID", x, x.call(asVoid, 1), 0, 0);
+  }
+
+  private static void widenedForItsType() {
+    d.sentence("LONG, if it is an INT (it is WIDENED): what a HANDLER gives back is a LONG then");
+    ReflectModels x = new ReflectModels();
+    Told.type(x, 0, 2);
+    int asInt = Told.handle(x, 1, 0, INT, ABSTRACT_MARK, 0, 0, LONG);
+    int asLong = Told.handle(x, 1, 1, LONG, ABSTRACT_MARK, 0, 0, LONG);
+    int intAsInt = Told.handle(x, 1, 2, INT, ABSTRACT_MARK, 0, 0, INT, LONG);
+    x.proxy(1, 3);
+    x.value(0, 1, 6);
+    d.wrapped("an INT for a LONG, as an INT", x, x.call(asInt, 0), 2);
+    d.gives("an INT for a LONG, as a LONG", x, x.call(asLong, 0), 2, 6);
+    x.value(1, 1, 7);
+    d.gives("an INT for an INT, as an INT", x, x.call(intAsInt, 0), 1, 6);
   }
 
   private static void voidGivesNothing() {

@@ -103,7 +103,7 @@ final class Player {
       case 15, 16, 17 -> planCall();
       case 18 -> planAsk();
       case 19 -> planMany();
-      default -> plan("value", below(3), near(r.nextInt(4)), number());
+      default -> plan("value", below(4), near(r.nextInt(4)), number());
     }
   }
 

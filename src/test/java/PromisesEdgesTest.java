@@ -500,6 +500,11 @@ public final class PromisesEdgesTest {
     d.due("again", x.leave(below), 1);
     d.due("of the SHUT one again", x.leave(shut), NO_LEAVE);
     d.due("it has LEAVE still", x.handle(shut, 1), 1);
+    ReflectModels y = new ReflectModels();
+    Told.type(y, 0, 0);
+    y.field(0, 0, INT, true, false, true);
+    y.caller(1);
+    d.due("of the ROOT, which is not SHUT", y.leave(y.findField(0, 0, false)), 1);
   }
 
   // ---- acts: VALUES

@@ -115,7 +115,8 @@ public final class RefusalsTest {
       d.due("STATE (it is there), FULL", Told.method(x, 4, 0, INT, OPEN, 0, 0), STATE);
       d.due("STATE (as told: ABSTRACT), FULL", Told.method(x, 4, 0, INT, ABSTRACT_MARK, 0, 0, INT), STATE);
       d.due("STATE (as told: TYPES), FULL", Told.method(x, 4, 0, INT, OPEN, 1, 0, INT), STATE);
-      d.due("STATE (as told: b), FULL", Told.method(x, 4, 0, INT, OPEN, 2, 6, 0), STATE);
+      d.due("STATE (as told: class b), FULL", Told.method(x, 4, 0, INT, OPEN, 2, 6, 0), STATE);
+      d.due("STATE (as told: MEMBER b), FULL", Told.method(x, 4, 0, INT, OPEN, 3, 40, 0), STATE);
       d.due("FULL, or STATE (OBJECTS)", Told.method(x, 5, 0, INT, OPEN, 0, 0), withObject ? STATE : FULL);
     }
   }

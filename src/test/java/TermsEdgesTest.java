@@ -373,6 +373,12 @@ public final class TermsEdgesTest {
     d.due("told(1)", x.told(1), 40);
     d.due("about(4, 4)", x.about(4, 4), 20);
     d.due("about(0, 4)", x.about(0, 4), 0);
+    d.due("the last one is found", Told.found(x, 5, 19), 0);
+    d.due("it is MEMBER 39", x.handle(0, 0), 39);
+    d.due("what is not there is looked for among all", x.findField(2, 0, true), Told.NO_MEMBER);
+    d.due("a RECORD of none is made", x.make(2), 0);
+    d.due("PLAIN with 20 FIELDS", x.make(4), 1);
+    d.gives("its last FIELD", x, x.get(x.findField(4, 19, true), 1, 0), 1, 0);
   }
 
   private static void membersInTheirOrder() {
